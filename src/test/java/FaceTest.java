@@ -71,8 +71,8 @@ public final class FaceTest {
   private static void words(Due due) throws Exception {
     String source = Files.readString(Path.of("src/main/java/HoldBench.java"))
         .replaceAll("(?s)/\\*.*?\\*/", " ").replaceAll("//[^\n]*", " ");
-    Matcher m = Pattern.compile("\\b(throw|throws|try|catch|finally|synchronized|assert)\\b|->|::|^package", Pattern.MULTILINE)
-        .matcher(source);
+    String ruledOut = "\\b(throw|throws|try|catch|finally|synchronized|assert|package)\\b|->|::";
+    Matcher m = Pattern.compile(ruledOut).matcher(source);
     due.isTrue("no word that LANGUAGE.md rules out", !m.find());
   }
 }

@@ -12,6 +12,7 @@ public final class KindsTest {
     returns();
     breaksWithoutALoop();
     loopsOutsideACall();
+    loopsAroundTryAndBoth();
     tries();
     triesOfTheMachinesNumbers();
     both();
@@ -182,6 +183,51 @@ public final class KindsTest {
     }
   }
 
+  private static void loopsAroundTryAndBoth() {
+    for (int kind : new int[] {Due.TRY, Due.BOTH}) {
+      for (int leave : new int[] {Due.BREAK, Due.NEXT}) {
+        aroundFirst(kind, leave);
+        aroundSecond(kind, leave);
+      }
+    }
+  }
+
+  private static void aroundFirst(int kind, int leave) {
+    HoldBench x = new HoldBench();
+    x.thing(0);
+    x.step(1, kind, 0, 2, 6);
+    mark(x, 1);
+    x.step(2, Due.HOLD, 0, 3, 0);
+    x.step(3, leave, 0, 0, 0);
+    leftAround("kind " + leave + " in the first BLOCK of kind " + kind, x, leave);
+  }
+
+  private static void aroundSecond(int kind, int leave) {
+    HoldBench x = new HoldBench();
+    x.thing(0);
+    x.step(1, kind, 0, 2, 3);
+    mark(x, 1);
+    x.step(2, Due.THROW, 1, 0, 0);
+    x.step(3, Due.HOLD, 0, 4, 0);
+    x.step(4, leave, 0, 0, 0);
+    leftAround("kind " + leave + " in the second BLOCK of kind " + kind, x, leave);
+  }
+
+  /** BLOCK 1 is left out of a HOLD by a BREAK or a NEXT: in a LOOP, and in none. */
+  private static void leftAround(String what, HoldBench x, int leave) {
+    x.step(0, Due.LOOP, 2, 1, 0);
+    mark(x, 0);
+    if (leave == Due.BREAK) {
+      run(what + " in a LOOP", x, 0, 1000, 2100, 10000);
+    } else {
+      run(what + " in a LOOP", x, 0, 1000, 2200, 1000, 2200, 10000);
+    }
+    x.clear(0);
+    x.step(0, Due.CALL, 0, 1, 0);
+    mark(x, 0);
+    run(what + " without a LOOP", x, 0, 1000, 2300, 10000);
+  }
+
   private static void tries() {
     for (int caught = 0; caught <= 9; caught++) {
       HoldBench x = new HoldBench();
@@ -313,7 +359,7 @@ public final class KindsTest {
       x.step(0, Due.LOOP, 1, 1, 0);
       x.step(1, Due.HOLD, 0, 2, 0);
       x.step(2, Due.HOLD, 1, 3, 0);
-      x.step(3, kinds[how], -8000 + 8001, 0, 0);
+      x.step(3, kinds[how], 1, 0, 0);
       due.is("how " + how, x.run(), how == 4 ? 1 : 0);
       int at = how == 0 ? 3 : 2;
       due.is("the inner HOLD, how " + how, x.trace(at), 2001 + 100 * how);

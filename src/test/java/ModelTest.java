@@ -188,12 +188,10 @@ public final class ModelTest {
     }
 
     void both(int x, int y, int loops) {
-      boolean spent = false;
       try {
         block(x, loops);
       } catch (Leave l) {
-        spent = l.how == 5;
-        if (!spent) block(y, loops);
+        if (l.how != 5) block(y, loops);
         throw l;
       }
       block(y, loops);

@@ -9,8 +9,8 @@ public final class RunTest {
     spentIsNotCaught(due);
     spentInASecondBlock(due);
     spentLeavesEveryHold(due);
-    refusedHolds(due);
-    moreThan1500InOneRun(due);
+    refusedHoldsOfARunUnderWay(due);
+    fifteenHundredRefusedHolds(due);
     due.end();
   }
 
@@ -169,7 +169,7 @@ public final class RunTest {
     x.step(3, Due.HOLD, 0, 4, 0);
   }
 
-  private static void refusedHolds(Due due) {
+  private static void refusedHoldsOfARunUnderWay(Due due) {
     HoldBench x = new HoldBench();
     refuse(x);
     for (int i = 1; i <= 14; i++) due.is("run " + i, x.run(), 0);
@@ -200,7 +200,7 @@ public final class RunTest {
     due.is("count(2)", x.count(2), 20);
   }
 
-  private static void moreThan1500InOneRun(Due due) {
+  private static void fifteenHundredRefusedHolds(Due due) {
     HoldBench x = new HoldBench();
     refuse(x);
     for (int i = 1; i <= 15; i++) due.is("run " + i, x.run(), 0);

@@ -40,6 +40,7 @@ public final class ThingTest {
     due.is("thing(6), the 61st", x.thing(6), Due.BAD);
     due.unchanged("thing beyond 60", x, before);
     due.is("number(59)", x.number(59), 0);
+    due.is("number(60) of 60", x.number(60), 0);
     x.step(0, Due.HOLD, 5, 1, 0);
     due.is("run() that holds the last THING", x.run(), 0);
     due.trace("the last THING", x, 1059, 2059);
