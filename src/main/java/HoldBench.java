@@ -55,17 +55,18 @@ public final class HoldBench {
     private static final int ENTRY_HOW = 100;
     private static final int ENTRY_MARK = 10000;
 
+    private final Runner runner;
     private final Shelf shelf;
     private final Program program;
     private final Tally tally;
-    private final Runner runner;
     private int runs;
 
+    // The runner makes what it works on, so that no constructor hands out a part of what it makes.
     public HoldBench() {
-        shelf = new Shelf();
-        program = new Program();
-        tally = new Tally();
-        runner = new Runner(shelf, program, tally);
+        runner = new Runner();
+        shelf = runner.shelf;
+        program = runner.program;
+        tally = runner.tally;
         runs = 0;
     }
 
@@ -361,10 +362,10 @@ public final class HoldBench {
         private final Tally tally;
         private int refused;
 
-        private Runner(Shelf shelf, Program program, Tally tally) {
-            this.shelf = shelf;
-            this.program = program;
-            this.tally = tally;
+        private Runner() {
+            shelf = new Shelf();
+            program = new Program();
+            tally = new Tally();
             refused = 0;
         }
 

@@ -4,6 +4,7 @@ import java.lang.reflect.Method;
 import java.lang.reflect.Modifier;
 import java.nio.file.Files;
 import java.nio.file.Path;
+import java.util.Arrays;
 import java.util.Set;
 import java.util.TreeSet;
 import java.util.regex.Matcher;
@@ -19,7 +20,10 @@ public final class FaceTest {
     constants(due);
     methods(due);
     nested(due);
+    sizes(due);
+    handsOutNothing(due);
     words(due);
+    library(due);
     due.end();
   }
 
@@ -68,11 +72,65 @@ public final class FaceTest {
     }
   }
 
-  private static void words(Due due) throws Exception {
-    String source = Files.readString(Path.of("src/main/java/HoldBench.java"))
+  private static Class<?>[] all() {
+    Class<?>[] inside = HoldBench.class.getDeclaredClasses();
+    Class<?>[] all = Arrays.copyOf(inside, inside.length + 1);
+    all[inside.length] = HoldBench.class;
+    return all;
+  }
+
+  /** Rules 5 and 11: seven parameters, some twelve classes, some twenty fields; no static field changes. */
+  private static void sizes(Due due) throws Exception {
+    due.isTrue("at most twelve classes", all().length <= 12);
+    for (Class<?> c : all()) {
+      int fields = 0;
+      for (Field f : c.getDeclaredFields()) {
+        if (!Modifier.isStatic(f.getModifiers())) fields++;
+        else due.isTrue("a constant: " + f, Modifier.isFinal(f.getModifiers()) && f.getType() == int.class);
+      }
+      due.isTrue("at most twenty fields: " + c, fields <= 20);
+      for (Method m : c.getDeclaredMethods()) due.isTrue("at most seven parameters: " + m, m.getParameterCount() <= 7);
+    }
+    Matcher body = Pattern.compile("(?ms)^( {4}| {8})(?:public|private) [^;=]*?\\) \\{$.*?^\\1\\}$").matcher(source());
+    int methods = 0;
+    while (body.find()) {
+      methods++;
+      due.isTrue("at most sixty lines: " + body.group().lines().findFirst(), body.group().lines().count() <= 60);
+    }
+    due.isTrue("methods were found: " + methods, methods > 40);
+  }
+
+  /** Rule 12: what a constructor makes can't be handed out if no constructor inside takes anything. */
+  private static void handsOutNothing(Due due) {
+    for (Class<?> c : all()) {
+      for (Constructor<?> made : c.getDeclaredConstructors()) {
+        due.is("parameters of " + made, made.getParameterCount(), 0);
+      }
+    }
+  }
+
+  /** The class's text without what its comments say. */
+  private static String source() throws Exception {
+    return Files.readString(Path.of("src/main/java/HoldBench.java"))
         .replaceAll("(?s)/\\*.*?\\*/", " ").replaceAll("//[^\n]*", " ");
-    String ruledOut = "\\b(throw|throws|try|catch|finally|synchronized|assert|package)\\b|->|::";
-    Matcher m = Pattern.compile(ruledOut).matcher(source);
-    due.isTrue("no word that LANGUAGE.md rules out", !m.find());
+  }
+
+  /** Rules 2, 6 and 10: words and signs that are ruled out. */
+  private static void words(Due due) throws Exception {
+    String ruledOut = "\\b(throw|throws|try|catch|finally|synchronized|assert|package|instanceof|this)\\b|->|::|\"";
+    Matcher m = Pattern.compile(ruledOut).matcher(source());
+    boolean found = m.find();
+    due.isTrue("nothing that LANGUAGE.md rules out, nor what it makes no use of" + (found ? ": " + m.group() : ""),
+        !found);
+  }
+
+  /** Rule 4: of the library, only these are used. */
+  private static void library(Due due) throws Exception {
+    Matcher imports = Pattern.compile("\\bimport\\s+([^;]+);").matcher(source());
+    while (imports.find()) due.isTrue("import " + imports.group(1), imports.group(1).equals("java.util.Arrays"));
+    Set<String> used = new TreeSet<>();
+    Matcher calls = Pattern.compile("\\b([A-Z]\\w*[a-z]\\w*\\.\\w+)\\(").matcher(source());
+    while (calls.find()) used.add(calls.group(1));
+    due.isTrue("the library's " + used, Set.of("Arrays.fill", "Math.max", "Math.min").containsAll(used));
   }
 }
